@@ -1,0 +1,43 @@
+/** What the project's tests share: each prints the calls whose answers are not as due, and ends with 1 then. */
+final class Check {
+    private static int wrong = 0;
+    private static int asked = 0;
+
+    private Check() {
+    }
+
+    static void due(String call, Object got, Object want) {
+        asked++;
+        if (!got.equals(want)) {
+            wrong++;
+            System.out.println(call + " answered " + got + ", due is " + want);
+        }
+    }
+
+    /** The exception is due itself, not a kind of it. */
+    static void dueThrow(String call, Class<? extends RuntimeException> want, Runnable run) {
+        asked++;
+        String got = "nothing";
+        try {
+            run.run();
+        } catch (RuntimeException e) {
+            if (e.getClass() == want) {
+                return;
+            }
+            got = e.getClass().getName();
+        }
+        wrong++;
+        System.out.println(call + " threw " + got + ", due is " + want.getName());
+    }
+
+    static int wrongs() {
+        return wrong;
+    }
+
+    static void end() {
+        System.out.println(wrong + " of " + asked + " answers are not as due");
+        if (wrong != 0 || asked == 0) {
+            System.exit(1);
+        }
+    }
+}
