@@ -14,7 +14,10 @@ public final class CairnCipher {
     private static final int MOST_HINTS = 5;
     private static final int MOST_STAGES = 6;
     private static final int LETTERS = 27;
+    // The letter 26 is 0x1F5FF, which is this pair of chars.
     private static final int WIDE_LETTER = 26;
+    private static final char FIRST_OF_PAIR = (char) 0xD83D;
+    private static final char SECOND_OF_PAIR = (char) 0xDDFF;
     private static final int MOST_LETTERS = 5;
     private static final int MOST_WALKERS = 6;
     private static final int GREATEST_PACE = 5;
@@ -22,6 +25,9 @@ public final class CairnCipher {
     private static final int SIGHT = 3;
     private static final int MOST_MINUTES = 60;
     private static final int LAST_MINUTE = 5000;
+    private static final int FULL_POINTS = 100;
+    private static final int WRONG_POINTS = 10;
+    private static final int LEAST_POINTS = 10;
     private static final int MOST_CALLS = 512;
 
     private final Land land = new Land();
@@ -372,11 +378,11 @@ public final class CairnCipher {
         if (letter != WIDE_LETTER) {
             return (char) ('a' + letter);
         }
-        return index == 0 ? (char) 0xD83D : (char) 0xDDFF;
+        return index == 0 ? FIRST_OF_PAIR : SECOND_OF_PAIR;
     }
 
     private static int pointsFor(int wrongAnswers, boolean wasTold) {
-        int points = Math.max(10, 100 - 10 * wrongAnswers);
+        int points = Math.max(LEAST_POINTS, FULL_POINTS - WRONG_POINTS * wrongAnswers);
         return wasTold ? points / 2 : points;
     }
 

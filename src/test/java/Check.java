@@ -14,20 +14,25 @@ final class Check {
         }
     }
 
-    /** The exception is due itself, not a kind of it. */
+    /** The exception is due itself, not a kind of it, and thrown by the class, not by what it calls. */
     static void dueThrow(String call, Class<? extends RuntimeException> want, Runnable run) {
         asked++;
         String got = "nothing";
         try {
             run.run();
         } catch (RuntimeException e) {
-            if (e.getClass() == want) {
+            if (e.getClass() == want && isThrownByTheClass(e)) {
                 return;
             }
-            got = e.getClass().getName();
+            got = e.getClass().getName() + (isThrownByTheClass(e) ? "" : " of the library's");
         }
         wrong++;
         System.out.println(call + " threw " + got + ", due is " + want.getName());
+    }
+
+    static boolean isThrownByTheClass(RuntimeException e) {
+        StackTraceElement[] trace = e.getStackTrace();
+        return trace.length > 0 && trace[0].getClassName().startsWith("CairnCipher");
     }
 
     static int wrongs() {

@@ -103,7 +103,8 @@ public final class ModelTest {
             try {
                 return call.on(face);
             } catch (RuntimeException e) {
-                return "throws " + e.getClass().getName();
+                boolean isOfLibrary = face instanceof Real && !Check.isThrownByTheClass(e);
+                return "throws " + e.getClass().getName() + (isOfLibrary ? " of the library's" : "");
             }
         }
 

@@ -691,9 +691,12 @@ public final class PromisesTest {
         due("pass(1) to its end", x.pass(1), 1);
     }
 
+    /** The way to another goal between them shows that each finds its own. */
     private static void bothWays(CairnCipher x, int place, int goal, int sum) {
         due("way(" + place + ", " + goal + ")", x.way(place, goal), sum);
+        x.way(place, (goal + 1) % 64);
         due("wayByRounds(" + place + ", " + goal + ")", x.wayByRounds(place, goal), sum);
+        x.wayByRounds(place, (goal + 2) % 64);
     }
 
     /** Promises 21 and 22. */
@@ -710,6 +713,8 @@ public final class PromisesTest {
         x.setHeight(1, 4);
         x.setHeight(17, 3);
         bothWays(x, 8, 10, 6);
+        bothWays(x, 1, 9, 6);
+        bothWays(x, 9, 17, 7);
         bothWays(x, 1, 17, 5 + 1 + 1 + 4);
         x.close(1);
         bothWays(x, 1, 0, 5);
