@@ -85,8 +85,28 @@ public final class LanguageTest {
             Check.due(inner + " is private and static",
                     inner.getModifiers() & (Modifier.PRIVATE | Modifier.STATIC), Modifier.PRIVATE | Modifier.STATIC);
             checkFields(inner);
+            checkMethods(inner);
         }
         checkFields(CairnCipher.class);
+        checkMethods(CairnCipher.class);
+    }
+
+    private static void checkMethods(Class<?> any) {
+        for (Method method : any.getDeclaredMethods()) {
+            Check.due(any + "." + method.getName() + " takes at most seven parameters",
+                    method.getParameterCount() <= 7, true);
+            Check.due(any + "." + method.getName() + " bears the name of a public one",
+                    any != CairnCipher.class && isOfTheFace(method.getName()), false);
+        }
+    }
+
+    private static boolean isOfTheFace(String name) {
+        for (Method method : CairnCipher.class.getDeclaredMethods()) {
+            if (Modifier.isPublic(method.getModifiers()) && method.getName().equals(name)) {
+                return true;
+            }
+        }
+        return false;
     }
 
     private static void checkFields(Class<?> any) {
@@ -123,8 +143,8 @@ public final class LanguageTest {
         imports.removeAll(Set.of("java.util.ArrayList", "java.util.NoSuchElementException"));
         Check.due("other imports", imports.toString(), "[]");
         String[] ruledOut = {"->", "::", "\\bfinally\\b", "\\bsynchronized\\b", "\\bassert\\b", "\\bcatch\\b",
-            "\\btry\\b", "\\bpackage\\b", "\\bequals\\b", "\\bhashCode\\b", "\\btoString\\b", "Exact\\b", "\\bSystem\\b",
-            "\\bThread\\b", "\\bObject\\b", "\\bvar\\b", "\\bprotected\\b", "\\bstatic \\{", "\"\""};
+            "\\btry\\b", "\\bpackage\\b", "\\bequals\\b", "\\bhashCode\\b", "\\btoString\\b", "Exact\\b",
+            "\\bSystem\\b", "\\bThread\\b", "\\bObject\\b", "\\bvar\\b", "\\bprotected\\b", "\\bstatic \\{", "\"\""};
         for (String rule : ruledOut) {
             Check.due("the program has " + rule, Pattern.compile(rule).matcher(code).find(), false);
         }

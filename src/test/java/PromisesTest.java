@@ -61,27 +61,6 @@ public final class PromisesTest {
         Check.dueThrow(call, want, run);
     }
 
-    private static void spellAnew(CairnCipher x, int... letters) {
-        x.clearSpelled();
-        for (int letter : letters) {
-            x.spell(letter);
-        }
-    }
-
-    private static int stageNear(CairnCipher x, int place, int... word) {
-        spellAnew(x, word);
-        x.hint(NEAR, 0, place, false);
-        return x.stage();
-    }
-
-    private static String cipher(CairnCipher x, int stage) {
-        StringBuilder text = new StringBuilder();
-        for (int i = 0; i < x.cipherLength(stage); i++) {
-            text.append(x.cipherAt(stage, i));
-        }
-        return text.toString();
-    }
-
     /** Promise 1, and the constants. */
     private static void newObject() {
         CairnCipher x = new CairnCipher();
@@ -155,7 +134,7 @@ public final class PromisesTest {
     /** Promise 3. */
     private static void close() {
         CairnCipher x = new CairnCipher();
-        int stage = stageNear(x, 1, 5);
+        int stage = Scenes.stageNear(x, 1, 5);
         due("close", x.close(1), true);
         due("way round", x.way(0, 2), 4);
         due("a stage stays at a closed place", x.placeOf(stage), 1);
@@ -196,7 +175,7 @@ public final class PromisesTest {
         due("SHADE and", x.hint(SHADE, 1, 0, false), 32);
         due("ROW and", x.hint(ROW, 1, 0, false), 4);
         due("COLUMN fix", x.hint(COLUMN, 2, 0, false), 1);
-        spellAnew(x, 0);
+        Scenes.spellAnew(x, 0);
         x.stage();
         due("what SHADE, ROW and COLUMN fix", x.placeOf(0), 1);
         x.setHeight(9, 4);
@@ -238,7 +217,7 @@ public final class PromisesTest {
     /** Promise 6. */
     private static void stage() {
         CairnCipher x = new CairnCipher();
-        spellAnew(x, 1, 2);
+        Scenes.spellAnew(x, 1, 2);
         for (int i = 0; i < 6; i++) {
             x.hint(NEAR, 0, 10 * i, false);
             due("stage number " + i, x.stage(), i);
@@ -250,7 +229,7 @@ public final class PromisesTest {
         due("the draft after it", x.clearDraft(), 1);
         due("the spelled text stays", x.clearSpelled(), 2);
         x.spell(7);
-        due("the word stays when the text changes", cipher(x, 0), "abc");
+        due("the word stays when the text changes", Scenes.cipher(x, 0), "abc");
     }
 
     /** Promise 6, wrong times. */
@@ -338,7 +317,7 @@ public final class PromisesTest {
     /** Promise 10. */
     private static void moves() {
         CairnCipher x = new CairnCipher();
-        stageNear(x, 12, 3);
+        Scenes.stageNear(x, 12, 3);
         x.setHeight(2, 8);
         x.hint(HIGH, 7, 0, false);
         x.stage();
@@ -397,39 +376,39 @@ public final class PromisesTest {
     /** Promises 13 and 14. */
     private static void cipherAtEvenPlace() {
         CairnCipher x = new CairnCipher();
-        stageNear(x, 20, 7, 7);
-        due("the cipher at 20, at the end", cipher(x, 0), "aau");
-        stageNear(x, 0, 3, 4);
-        due("the cipher at 0, at the start", cipher(x, 1), "ade");
-        stageNear(x, 30, 0, 1, 2, 3);
-        due("the cipher at 30, at the start", cipher(x, 2), "ddefg");
-        stageNear(x, 28, 0, 1, 2, 3, 4);
-        due("the cipher at 28, inside", cipher(x, 3), "bcdebf");
+        Scenes.stageNear(x, 20, 7, 7);
+        due("the cipher at 20, at the end", Scenes.cipher(x, 0), "aau");
+        Scenes.stageNear(x, 0, 3, 4);
+        due("the cipher at 0, at the start", Scenes.cipher(x, 1), "ade");
+        Scenes.stageNear(x, 30, 0, 1, 2, 3);
+        due("the cipher at 30, at the start", Scenes.cipher(x, 2), "ddefg");
+        Scenes.stageNear(x, 28, 0, 1, 2, 3, 4);
+        due("the cipher at 28, inside", Scenes.cipher(x, 3), "bcdebf");
     }
 
     /** Promises 13 and 14: an odd place turns the letters round. */
     private static void cipherAtOddPlace() {
         CairnCipher x = new CairnCipher();
-        stageNear(x, 25, 0, 2);
-        due("the cipher at 25", cipher(x, 0), "azz");
-        stageNear(x, 63, 0, 1, 2, 3, 4);
-        due("the cipher at 63", cipher(x, 1), "nmljkj");
-        stageNear(x, 1, 5);
-        due("the cipher at 1", cipher(x, 2), "gb");
-        stageNear(x, 29, 24, 23, 22, 21, 20);
-        due("the cipher at 29", cipher(x, 3), "wxyz\uD83D\uDDFFc");
+        Scenes.stageNear(x, 25, 0, 2);
+        due("the cipher at 25", Scenes.cipher(x, 0), "azz");
+        Scenes.stageNear(x, 63, 0, 1, 2, 3, 4);
+        due("the cipher at 63", Scenes.cipher(x, 1), "nmljkj");
+        Scenes.stageNear(x, 1, 5);
+        due("the cipher at 1", Scenes.cipher(x, 2), "gb");
+        Scenes.stageNear(x, 29, 24, 23, 22, 21, 20);
+        due("the cipher at 29", Scenes.cipher(x, 3), "wxyz\uD83D\uDDFFc");
     }
 
     /** Promises 13 and 14: the letter 26 is a pair of chars, turned round or not. */
     private static void cipherOfWideLetters() {
         CairnCipher x = new CairnCipher();
-        stageNear(x, 26, 0);
+        Scenes.stageNear(x, 26, 0);
         due("cipherLength at 26", x.cipherLength(0), 4);
-        due("the cipher at 26", cipher(x, 0), "\uD83D\uDDFF\uD83D\uDDFF");
-        stageNear(x, 53, 0, 1);
+        due("the cipher at 26", Scenes.cipher(x, 0), "\uD83D\uDDFF\uD83D\uDDFF");
+        Scenes.stageNear(x, 53, 0, 1);
         due("cipherLength at 53", x.cipherLength(1), 5);
-        due("the cipher at 53", cipher(x, 1), "a\uD83D\uDDFF\uD83D\uDDFF");
-        stageNear(x, 27, 26, 26, 26, 26, 26);
+        due("the cipher at 53", Scenes.cipher(x, 1), "a\uD83D\uDDFF\uD83D\uDDFF");
+        Scenes.stageNear(x, 27, 26, 26, 26, 26, 26);
         due("cipherLength of five wide ones", x.cipherLength(2), 11);
         due("the letter inserted among them", (int) x.cipherAt(2, 6), (int) 'a');
         due("the char before it", (int) x.cipherAt(2, 5), 0xDDFF);
@@ -443,21 +422,21 @@ public final class PromisesTest {
         CairnCipher x = new CairnCipher();
         x.setHeight(2, 3);
         x.hint(HIGH, 3, 0, false);
-        spellAnew(x, 0, 1, 2);
+        Scenes.spellAnew(x, 0, 1, 2);
         x.stage();
-        due("the cipher at 2", cipher(x, 0), "cdce");
+        due("the cipher at 2", Scenes.cipher(x, 0), "cdce");
         x.setHeight(3, 4);
         dueThrow("cipherLength nowhere", ELEMENT, () -> x.cipherLength(0));
         dueThrow("cipherAt nowhere", ELEMENT, () -> x.cipherAt(0, 0));
         x.setHeight(2, 0);
-        due("the cipher at 3", cipher(x, 0), "fedd");
+        due("the cipher at 3", Scenes.cipher(x, 0), "fedd");
     }
 
     /** Promises 13 and 14, wrong inputs. */
     private static void cipherRefusals() {
         CairnCipher x = new CairnCipher();
         dueThrow("cipherLength(0) ahead of it", INDEX, () -> x.cipherLength(0));
-        stageNear(x, 4, 4);
+        Scenes.stageNear(x, 4, 4);
         dueThrow("cipherLength(1)", INDEX, () -> x.cipherLength(1));
         dueThrow("cipherLength(-1)", INDEX, () -> x.cipherLength(-1));
         dueThrow("cipherAt(1, 0)", INDEX, () -> x.cipherAt(1, 0));
@@ -466,7 +445,7 @@ public final class PromisesTest {
         dueThrow("cipherAt(0, least)", ELEMENT, () -> x.cipherAt(0, Integer.MIN_VALUE));
         dueThrow("cipherAt(0, 2)", ELEMENT, () -> x.cipherAt(0, 2));
         dueThrow("cipherAt(0, greatest)", ELEMENT, () -> x.cipherAt(0, Integer.MAX_VALUE));
-        due("the cipher at 4", cipher(x, 0), "ei");
+        due("the cipher at 4", Scenes.cipher(x, 0), "ei");
     }
 
     /** Promises 15 and 16. */
@@ -807,7 +786,7 @@ public final class PromisesTest {
     /** Promises 25, 27, 28 and 29. */
     private static void answer() {
         CairnCipher x = new CairnCipher();
-        stageNear(x, 5, 1, 26);
+        Scenes.stageNear(x, 5, 1, 26);
         x.addWalker(5, 1);
         due("answer with the word", x.answer(0, 0), true);
         due("score", x.score(0), 100);
@@ -816,12 +795,12 @@ public final class PromisesTest {
         x.addWalker(5, 1);
         int[][] wrongs = {{}, {1}, {26, 1}, {1, 25}, {1, 26, 26}, {1, 26, 0}};
         for (int[] wrong : wrongs) {
-            spellAnew(x, wrong);
+            Scenes.spellAnew(x, wrong);
             due("answer with " + wrong.length + " letters", x.answer(1, 0), false);
         }
         due("solved by wrong answers", x.solved(1), 0);
         due("score by wrong answers", x.score(1), 0);
-        spellAnew(x, 1, 26);
+        Scenes.spellAnew(x, 1, 26);
         due("answer right at last", x.answer(1, 0), true);
         due("score after six wrong ones", x.score(1), 40);
         due("scoreAnew after six wrong ones", x.scoreAnew(1), 40);
@@ -839,7 +818,7 @@ public final class PromisesTest {
         CairnCipher x = new CairnCipher();
         x.setHeight(9, 2);
         x.hint(HIGH, 2, 0, false);
-        spellAnew(x, 4);
+        Scenes.spellAnew(x, 4);
         x.stage();
         x.addWalker(8, 1);
         dueThrow("answer beside the stage", STATE, () -> x.answer(0, 0));
@@ -866,19 +845,19 @@ public final class PromisesTest {
     /** Promises 25 and 27: the stages are solved in their order. */
     private static void answerInOrder() {
         CairnCipher x = new CairnCipher();
-        stageNear(x, 1, 0);
-        stageNear(x, 1, 0);
-        stageNear(x, 1, 0);
+        Scenes.stageNear(x, 1, 0);
+        Scenes.stageNear(x, 1, 0);
+        Scenes.stageNear(x, 1, 0);
         x.addWalker(1, 1);
         x.addWalker(1, 1);
         dueThrow("answer to the second one first", STATE, () -> x.answer(0, 1));
         due("answer to the first one", x.answer(0, 0), true);
         dueThrow("answer to the third one", STATE, () -> x.answer(0, 2));
         dueThrow("answer to the second one by another", STATE, () -> x.answer(1, 1));
-        spellAnew(x, 3);
+        Scenes.spellAnew(x, 3);
         due("answer to the second one, wrong", x.answer(0, 1), false);
         dueThrow("answer to the third one after that", STATE, () -> x.answer(0, 2));
-        spellAnew(x, 0);
+        Scenes.spellAnew(x, 0);
         due("answer to the second one", x.answer(0, 1), true);
         due("answer to the third one at last", x.answer(0, 2), true);
         due("solved", x.solved(0), 3);
@@ -890,8 +869,8 @@ public final class PromisesTest {
     /** Promises 26, 28 and 29. */
     private static void tell() {
         CairnCipher x = new CairnCipher();
-        stageNear(x, 9, 2);
-        stageNear(x, 9, 2);
+        Scenes.stageNear(x, 9, 2);
+        Scenes.stageNear(x, 9, 2);
         x.addWalker(9, 1);
         x.addWalker(9, 1);
         x.addWalker(10, 1);
@@ -904,11 +883,11 @@ public final class PromisesTest {
         due("tell one at another neighbour", x.tell(0, 3, 1), 50);
         due("the score of the one who told", x.score(0), 200);
         due("the score of one who was told", x.score(1), 0);
-        spellAnew(x, 3);
+        Scenes.spellAnew(x, 3);
         x.answer(1, 0);
         x.answer(1, 0);
         x.answer(1, 0);
-        spellAnew(x, 2);
+        Scenes.spellAnew(x, 2);
         x.answer(1, 0);
         due("score, told and thrice wrong", x.score(1), 35);
         due("scoreAnew, told and thrice wrong", x.scoreAnew(1), 35);
@@ -920,15 +899,15 @@ public final class PromisesTest {
         x.answer(3, 0);
         due("score, told the other word alone", x.score(3), 100);
         due("tell by one who was told", x.tell(1, 2, 1), 50);
-        spellAnew(x, 3);
+        Scenes.spellAnew(x, 3);
         x.answer(3, 1);
-        spellAnew(x, 2);
+        Scenes.spellAnew(x, 2);
         x.answer(3, 1);
         due("score then", x.score(3), 145);
         due("scoreAnew then", x.scoreAnew(3), 145);
         due("the score of who told both", x.scoreAnew(0), 200);
         x.addWalker(9, 1);
-        spellAnew(x, 3);
+        Scenes.spellAnew(x, 3);
         x.answer(4, 0);
         due("tell after a wrong answer", x.tell(0, 4, 0), 45);
     }
@@ -936,8 +915,8 @@ public final class PromisesTest {
     /** Promise 26, wrong inputs. */
     private static void tellRefusals() {
         CairnCipher x = new CairnCipher();
-        stageNear(x, 9, 2);
-        stageNear(x, 9, 2);
+        Scenes.stageNear(x, 9, 2);
+        Scenes.stageNear(x, 9, 2);
         x.addWalker(9, 1);
         x.addWalker(9, 1);
         x.addWalker(18, 1);
@@ -969,12 +948,12 @@ public final class PromisesTest {
     /** Terms: 10 points at least, then half of them. */
     private static void pointsHaveABottom() {
         CairnCipher x = new CairnCipher();
-        stageNear(x, 9, 2);
+        Scenes.stageNear(x, 9, 2);
         for (int i = 0; i < 4; i++) {
             x.addWalker(9, 1);
         }
         x.answer(0, 0);
-        spellAnew(x, 3);
+        Scenes.spellAnew(x, 3);
         for (int i = 0; i < 9; i++) {
             x.answer(1, 0);
         }
@@ -985,7 +964,7 @@ public final class PromisesTest {
             x.answer(3, 0);
         }
         due("tell one with twelve wrong answers", x.tell(0, 2, 0), 5);
-        spellAnew(x, 2);
+        Scenes.spellAnew(x, 2);
         for (int i = 1; i < 4; i++) {
             x.answer(i, 0);
         }
@@ -1000,15 +979,15 @@ public final class PromisesTest {
     /** Promises 28 to 30. */
     private static void scoresAndOrder() {
         CairnCipher x = new CairnCipher();
-        stageNear(x, 9, 2);
+        Scenes.stageNear(x, 9, 2);
         for (int i = 0; i < 5; i++) {
             x.addWalker(9, 1);
         }
         x.answer(2, 0);
         x.answer(4, 0);
-        spellAnew(x, 0);
+        Scenes.spellAnew(x, 0);
         x.answer(1, 0);
-        spellAnew(x, 2);
+        Scenes.spellAnew(x, 2);
         x.answer(1, 0);
         int[] order = {2, 4, 1, 0, 3};
         for (int i = 0; i < order.length; i++) {
