@@ -51,7 +51,7 @@ final class Document {
         return String.join(" ", sections.get(section)).contains(quote);
     }
 
-    /** The sentences that rest on a state or an argument, and of which no quote was asked for. */
+    /** The sentences of which no quote was asked for. */
     List<String> notQuoted() {
         List<String> left = new ArrayList<>();
         for (String section : testedSections()) {
