@@ -76,7 +76,11 @@ abstract class Edges {
     /** The numbers just below and just above what is allowed, and the least and the greatest one. */
     static void refusedOutside(Class<? extends RuntimeException> want, int least, int most, Act ahead,
             NumberAct call) {
-        for (int number : new int[] {LEAST, least - 1, most + 1, GREATEST}) {
+        refusedEach(want, ahead, call, LEAST, least - 1, most + 1, GREATEST);
+    }
+
+    static void refusedEach(Class<? extends RuntimeException> want, Act ahead, NumberAct call, int... numbers) {
+        for (int number : numbers) {
             refused(want, ahead, x -> call.on(x, number));
         }
     }
@@ -85,13 +89,15 @@ abstract class Edges {
         refusedOutside(INDEX, 0, 63, Scenes::busy, call);
     }
 
-    /** In the busy scene there are the stages 0 and 1; on a new object there is none. */
+    /** In the busy scene there are the stages 0 and 1, and room for others; on a new object there is none. */
     static void refusedNoStage(NumberAct call) {
         refusedOutside(INDEX, 0, 1, Scenes::busy, call);
+        refusedEach(INDEX, Scenes::busy, call, 3, 4, 5, 6);
     }
 
-    /** In the busy scene there are the walkers 0 to 3. */
+    /** In the busy scene there are the walkers 0 to 3, and room for others. */
     static void refusedNoWalker(NumberAct call) {
         refusedOutside(INDEX, 0, 3, Scenes::busy, call);
+        refusedEach(INDEX, Scenes::busy, call, 5, 6);
     }
 }

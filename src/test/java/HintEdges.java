@@ -429,6 +429,12 @@ final class HintEdges extends Edges {
             x.spell(0);
             fiveNeededHints(x);
             due(placeOf.on(x, x.stage()), 10);
+            x.hint(ROW, 7, 0, true);
+            x.hint(COLUMN, 1, 0, false);
+            due(placeOf.on(x, x.stage()), 56);
+            x.hint(ROW, 1, 0, false);
+            x.hint(COLUMN, 7, 0, true);
+            due(placeOf.on(x, x.stage()), 7);
         });
         test(promise, "Returns the place", x -> {
             x.setHeight(8, 1);

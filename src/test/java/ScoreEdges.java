@@ -226,11 +226,15 @@ final class ScoreEdges extends Edges {
         test("Answers and scores", "The score of a walker is the sum of these.", x -> {
             sixStagesAt27(x);
             x.addWalker(27, 1);
-            dueScore(x, 0, 0);
+            x.addWalker(27, 1);
+            x.addWalker(27, 1);
+            dueScore(x, 1, 0);
             for (int i = 0; i < 6; i++) {
-                due(x.answer(0, i), true);
-                dueScore(x, 0, 100 * (i + 1));
+                due(x.answer(1, i), true);
+                dueScore(x, 1, 100 * (i + 1));
             }
+            dueScore(x, 0, 0);
+            dueScore(x, 2, 0);
         });
     }
 

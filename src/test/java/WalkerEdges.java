@@ -639,6 +639,7 @@ final class WalkerEdges extends Edges {
         test("Promise 24", "Throws IndexOutOfBoundsException as told", x -> {
             refused(INDEX, y -> { }, y -> y.sees(0));
             refusedOutside(INDEX, 0, 0, Scenes::busy, (y, warden) -> y.sees(warden));
+            refusedEach(INDEX, Scenes::busy, (y, warden) -> y.sees(warden), 2, 3, 4);
             refusedOutside(INDEX, 0, 3, Scenes::fourWardens, (y, warden) -> y.sees(warden));
         });
     }
