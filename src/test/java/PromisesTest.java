@@ -715,13 +715,7 @@ public final class PromisesTest {
     /** A way along all rows, open at one end of each by turns, takes as many rounds as there can be. */
     private static void waysThroughAMaze() {
         CairnCipher x = new CairnCipher();
-        for (int row = 1; row < 8; row += 2) {
-            for (int column = 0; column < 8; column++) {
-                if (column != (row % 4 == 1 ? 7 : 0)) {
-                    x.close(8 * row + column);
-                }
-            }
-        }
+        Scenes.maze(x);
         bothWays(x, 0, 48, 28 + 6);
         bothWays(x, 48, 0, 28 + 6);
         bothWays(x, 0, 56, 28 + 7);

@@ -87,6 +87,17 @@ final class Scenes {
         }
     }
 
+    /** One path alone along all rows: every second row is open at one end, by turns. */
+    static void maze(CairnCipher x) {
+        for (int row = 1; row < 8; row += 2) {
+            for (int column = 0; column < 8; column++) {
+                if (column != (row % 4 == 1 ? 7 : 0)) {
+                    x.close(8 * row + column);
+                }
+            }
+        }
+    }
+
     static void passTo(CairnCipher x, int minute) {
         while (x.now() < minute) {
             x.pass(Math.min(60, minute - x.now()));

@@ -541,13 +541,7 @@ final class WalkerEdges extends Edges {
 
     /** A way of one path alone along all rows, of which each step costs 10. */
     private static void dearMaze(CairnCipher x) {
-        for (int row = 1; row < 8; row += 2) {
-            for (int column = 0; column < 8; column++) {
-                if (column != (row % 4 == 1 ? 7 : 0)) {
-                    x.close(8 * row + column);
-                }
-            }
-        }
+        Scenes.maze(x);
         for (int place = 0; place < 64; place++) {
             if ((place / 8 + place % 8) % 2 == 1) {
                 x.setHeight(place, 9);
